@@ -133,6 +133,7 @@ public final class CompileTest {
         String ends = "; END; END; END; END; END";
         formed(true, five + "PRINT 1" + ends);
         formed(false, five + "LOCAL 6; END" + ends);
+        formed(false, five + "LOCAL 6" + ends);
         formed(false, five + "TRY; CATCH 0; END" + ends);
         formed(true, "LOCAL 1; LOCAL 2; LOCAL 3; LOCAL 4; TRY; CATCH 0; CATCH 0; END; LOCAL 5; END; END; END; END; END");
         formed(false, "LOCAL 1; LOCAL 2; LOCAL 3; LOCAL 4; TRY; CATCH 0; LOCAL 5; END; END; END; END; END; END");

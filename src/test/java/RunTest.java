@@ -5,6 +5,7 @@ public final class RunTest {
         caughtInItsFrame();
         catchesInOrder();
         typesAndTheirParents();
+        longestLine();
         notCaughtCleansNothing();
         unwindingThroughFrames();
         handlerBetweenCleanups();
@@ -74,6 +75,17 @@ public final class RunTest {
                 Check.due("type not caught", is[thrown][filter] ? -1 : thrown, () -> pads.count(5));
             }
         }
+    }
+
+    private static void longestLine() {
+        LandingPads pads = new LandingPads();
+        for (int parent = 0; parent < 7; parent++) {
+            pads.type(parent);
+        }
+        Check.make(pads, 0, "TRY; THROW 7; CATCH 0; PRINT 1; END");
+        ran(pads, 0, 0, "1", "1 5 0 1 1 -1");
+        Check.make(pads, 0, "TRY; THROW 6; CATCH 7; PRINT 1; END");
+        ran(pads, 0, 1, "", "0 1 0 0 1 6");
     }
 
     private static void notCaughtCleansNothing() {
@@ -150,26 +162,26 @@ public final class RunTest {
     }
 
     private static void threeHundredSteps() {
-        // 14 calls of 20 prints are cut by the numbers out, so long runs are made of jumps.
-        String jumps = "TRY; CATCH 0; END; TRY; CATCH 0; END; TRY; CATCH 0; END; TRY; CATCH 0; END;"
-                + "TRY; CATCH 0; END; TRY; CATCH 0; END";
-        // Function 0: 6 jumps and X, 7 steps. Function 1: a call of it is 8 steps.
-        LandingPads pads = pads(jumps, "CALL 0; CALL 0; CALL 0; CALL 0; CALL 0; CALL 0", "");
+        // Jumps put nothing out, so that a run of them gets to 300 steps.
+        String sixJumps = times("TRY; CATCH 0; END", 6);
+        LandingPads pads = pads(sixJumps, times("CALL 0", 6));
+        ran(pads, 0, 0, "", "0 7 0 0 1 -1");
         ran(pads, 1, 0, "", "0 49 0 0 2 -1");
-        // 5 * (1 + 49) + 6 * 8 + 1 = 299 and then X of function 3 is the 300th.
-        Check.make(pads, 3, "CALL 1; CALL 1; CALL 1; CALL 1; CALL 1; CALL 0; CALL 0; CALL 0; CALL 0; CALL 0; CALL 0; TRY; CATCH 0; END");
+        // 5 * (1 + 49) + 6 * (1 + 7) = 298 steps, then what follows and X.
+        String before = times("CALL 1", 5) + "; " + times("CALL 0", 6) + "; ";
+        Check.make(pads, 3, before + "TRY; CATCH 0; END");
         ran(pads, 3, 0, "", "0 300 0 0 3 -1");
-        Check.make(pads, 3, "CALL 1; CALL 1; CALL 1; CALL 1; CALL 1; CALL 0; CALL 0; CALL 0; CALL 0; CALL 0; CALL 0; PRINT 7; PRINT 8");
+        Check.make(pads, 3, before + "PRINT 7; PRINT 8");
         ran(pads, 3, 3, "7 8", "2 300 0 0 3 -1");
         // The 301st step would end the run otherwise too: 3 is looked at first.
-        Check.make(pads, 3, "CALL 1; CALL 1; CALL 1; CALL 1; CALL 1; CALL 0; CALL 0; CALL 0; CALL 0; CALL 0; CALL 0; PRINT 7; PRINT 8; CALL 5");
+        Check.make(pads, 3, before + "PRINT 7; PRINT 8; CALL 5");
         ran(pads, 3, 3, "7 8", "2 300 0 0 3 -1");
-        Check.make(pads, 3, "CALL 1; CALL 1; CALL 1; CALL 1; CALL 1; CALL 0; CALL 0; CALL 0; CALL 0; CALL 0; CALL 0; PRINT 7; PRINT 8; THROW 0");
+        Check.make(pads, 3, before + "PRINT 7; PRINT 8; THROW 0");
         ran(pads, 3, 3, "7 8", "2 300 0 0 3 -1");
         // As the 300th step it ends the run by itself, and is counted.
-        Check.make(pads, 3, "CALL 1; CALL 1; CALL 1; CALL 1; CALL 1; CALL 0; CALL 0; CALL 0; CALL 0; CALL 0; CALL 0; PRINT 7; CALL 5");
+        Check.make(pads, 3, before + "PRINT 7; CALL 5");
         ran(pads, 3, 4, "7", "1 300 0 0 3 -1");
-        Check.make(pads, 3, "CALL 1; CALL 1; CALL 1; CALL 1; CALL 1; CALL 0; CALL 0; CALL 0; CALL 0; CALL 0; CALL 0; PRINT 7; THROW 0");
+        Check.make(pads, 3, before + "PRINT 7; THROW 0");
         ran(pads, 3, 1, "7", "1 300 0 0 3 0");
     }
 
@@ -217,6 +229,14 @@ public final class RunTest {
         LandingPads pads = pads("TRY; THROW 2; CATCH 0; CALL 5; END", "TRY; THROW 3; CATCH -1; RETHROW; END", "PRINT 6");
         ran(pads, 0, 4, "", "0 2 0 1 1 -1");
         ran(pads, 1, 1, "", "0 2 0 1 1 3");
+        ran(pads, 2, 0, "6", "1 2 0 0 1 -1");
+        // What was caught when a run ended is not there in the next one.
+        for (int i = 0; i < 9; i++) {
+            ran(pads, 0, 4, "", "0 2 0 1 1 -1");
+        }
+        ran(pads, 1, 1, "", "0 2 0 1 1 3");
+        Check.make(pads, 3, "CALL 2");
+        ran(pads, 3, 0, "6", "1 4 0 0 2 -1");
         ran(pads, 2, 0, "6", "1 2 0 0 1 -1");
     }
 
