@@ -587,8 +587,10 @@ public final class LandingPads {
                 case CATCH:
                     beginCatch(program);
                     break;
-                default:
+                case END:
                     closeBlock(program);
+                    break;
+                default:
                     break;
             }
         }
