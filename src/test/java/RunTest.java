@@ -163,12 +163,12 @@ public final class RunTest {
 
     private static void threeHundredSteps() {
         // Jumps put nothing out, so that a run of them gets to 300 steps.
-        String sixJumps = times("TRY; CATCH 0; END", 6);
-        LandingPads pads = pads(sixJumps, times("CALL 0", 6));
+        String sixJumps = Check.times("TRY; CATCH 0; END", 6);
+        LandingPads pads = pads(sixJumps, Check.times("CALL 0", 6));
         ran(pads, 0, 0, "", "0 7 0 0 1 -1");
         ran(pads, 1, 0, "", "0 49 0 0 2 -1");
         // 5 * (1 + 49) + 6 * (1 + 7) = 298 steps, then what follows and X.
-        String before = times("CALL 1", 5) + "; " + times("CALL 0", 6) + "; ";
+        String before = Check.times("CALL 1", 5) + "; " + Check.times("CALL 0", 6) + "; ";
         Check.make(pads, 3, before + "TRY; CATCH 0; END");
         ran(pads, 3, 0, "", "0 300 0 0 3 -1");
         Check.make(pads, 3, before + "PRINT 7; PRINT 8");
@@ -185,16 +185,8 @@ public final class RunTest {
         ran(pads, 3, 1, "7", "1 300 0 0 3 0");
     }
 
-    private static String times(String statement, int n) {
-        StringBuilder text = new StringBuilder(statement);
-        for (int i = 1; i < n; i++) {
-            text.append("; ").append(statement);
-        }
-        return text.toString();
-    }
-
     private static void sixtyNumbers() {
-        LandingPads pads = pads(times("PRINT 1", 20), "CALL 0; CALL 0; CALL 0", "CALL 1; PRINT 2");
+        LandingPads pads = pads(Check.times("PRINT 1", 20), "CALL 0; CALL 0; CALL 0", "CALL 1; PRINT 2");
         Check.due("just sixty", 0, () -> pads.run(1));
         Check.same("counts", "60 67 0 0 2 -1", Check.countsOf(pads));
         Check.due("the last", 1, () -> pads.out(59));
@@ -205,9 +197,9 @@ public final class RunTest {
     }
 
     private static void sixtyNumbersCleaning() {
-        LandingPads pads = pads(times("PRINT 1", 20),
+        LandingPads pads = pads(Check.times("PRINT 1", 20),
                 "TRY; LOCAL 4; LOCAL 5; CALL 0; CALL 0; CALL 2; THROW 0; END; END; CATCH 0; END",
-                times("PRINT 2", 19));
+                Check.times("PRINT 2", 19));
         Check.due("the second D", 5, () -> pads.run(1));
         Check.same("counts", "60 69 1 1 2 -1", Check.countsOf(pads));
         Check.due("the first D", 105, () -> pads.out(59));

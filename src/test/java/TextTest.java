@@ -169,10 +169,7 @@ public final class TextTest {
         Check.due("the empty text", 1, () -> pads.compile(4));
         Check.due("the first again", 1, () -> pads.add(4, 0, 1));
         for (int wrong : new int[] {-1, 6, Integer.MIN_VALUE, Integer.MAX_VALUE}) {
-            Check.due("wipe of no function", Check.ARGUMENT, () -> {
-                pads.wipe(wrong);
-                return 0;
-            });
+            Check.due("wipe of no function", Check.ARGUMENT, () -> Check.wiped(pads, wrong));
         }
     }
 

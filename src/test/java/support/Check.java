@@ -8,6 +8,7 @@ final class Check {
 
     private static int checked = 0;
     private static int wrong = 0;
+    private static String leansOn = "";
 
     private Check() {
     }
@@ -15,6 +16,14 @@ final class Check {
     /** A call of the class under test or of the model. */
     interface Call {
         int answer();
+    }
+
+    /** The sentence of the document on which the answers that follow lean. */
+    static void sentence(int promise, String text) {
+        leansOn = "";
+        same("promise " + promise + ", whether the document says: " + text, "true",
+                Boolean.toString(Document.says(promise, text)));
+        leansOn = "promise " + promise + ", '" + text + "': ";
     }
 
     static String answerOf(Call call) {
@@ -39,9 +48,13 @@ final class Check {
         if (!want.equals(got)) {
             wrong++;
             if (wrong <= 20) {
-                System.out.println(what + " answered " + got + ", due is " + want);
+                System.out.println(leansOn + what + " answered " + got + ", due is " + want);
             }
         }
+    }
+
+    static void holds(String what, boolean condition) {
+        same(what, "true", Boolean.toString(condition));
     }
 
     static void finish(String test) {
@@ -55,6 +68,9 @@ final class Check {
     static void write(LandingPads pads, int function, String text) {
         for (String part : text.split(";")) {
             String[] words = part.trim().split(" ");
+            if (words[0].isEmpty()) {
+                continue;
+            }
             int x = words.length > 1 ? Integer.parseInt(words[1]) : 0;
             pads.add(function, statementNumber(words[0]), x);
         }
@@ -63,10 +79,23 @@ final class Check {
     /** Wipes, writes and compiles a text: how many instructions. */
     static int make(LandingPads pads, int function, String text) {
         pads.wipe(function);
-        if (!text.isEmpty()) {
-            write(pads, function, text);
-        }
+        write(pads, function, text);
         return pads.compile(function);
+    }
+
+    /** A text, n times, one behind the other. */
+    static String times(String text, int n) {
+        StringBuilder all = new StringBuilder();
+        for (int i = 0; i < n; i++) {
+            all.append(i == 0 ? "" : "; ").append(text);
+        }
+        return all.toString();
+    }
+
+    /** wipe as a call that answers 0. */
+    static int wiped(LandingPads pads, int function) {
+        pads.wipe(function);
+        return 0;
     }
 
     private static int statementNumber(String name) {
@@ -82,13 +111,13 @@ final class Check {
     /** The code as "P1 T0 G8 D7 U X". */
     static String codeOf(LandingPads pads, int function) {
         StringBuilder all = new StringBuilder();
-        for (int p = 0; p < pads.size(function, 0); p++) {
-            int letter = pads.code(function, p, 0);
-            all.append(p == 0 ? "" : " ").append("PCTRGDEUX".charAt(letter));
-            if ("PCTGD".indexOf("PCTRGDEUX".charAt(letter)) >= 0) {
-                all.append(pads.code(function, p, 1));
-            } else if (pads.code(function, p, 1) != 0) {
-                all.append("!").append(pads.code(function, p, 1));
+        int size = pads.size(function, 0);
+        for (int p = 0; p < size; p++) {
+            char letter = "PCTRGDEUX".charAt(pads.code(function, p, 0));
+            int number = pads.code(function, p, 1);
+            all.append(p == 0 ? "" : " ").append(letter);
+            if ("PCTGD".indexOf(letter) >= 0 || number != 0) {
+                all.append(number);
             }
         }
         return all.toString();
@@ -97,7 +126,8 @@ final class Check {
     /** The actions as "filter>landing>next", one behind the other. */
     static String actionsOf(LandingPads pads, int function) {
         StringBuilder all = new StringBuilder();
-        for (int k = 0; k < pads.size(function, 1); k++) {
+        int size = pads.size(function, 1);
+        for (int k = 0; k < size; k++) {
             all.append(k == 0 ? "" : " ").append(pads.action(function, k, 0)).append('>')
                     .append(pads.action(function, k, 1)).append('>').append(pads.action(function, k, 2));
         }
@@ -107,7 +137,8 @@ final class Check {
     /** The sites as "first-last:head", one behind the other. */
     static String sitesOf(LandingPads pads, int function) {
         StringBuilder all = new StringBuilder();
-        for (int k = 0; k < pads.size(function, 2); k++) {
+        int size = pads.size(function, 2);
+        for (int k = 0; k < size; k++) {
             all.append(k == 0 ? "" : " ").append(pads.site(function, k, 0)).append('-')
                     .append(pads.site(function, k, 1)).append(':').append(pads.site(function, k, 2));
         }
@@ -117,7 +148,8 @@ final class Check {
     /** What the latest run put out, "1 2 107". */
     static String outOf(LandingPads pads) {
         StringBuilder all = new StringBuilder();
-        for (int k = 0; k < pads.count(0); k++) {
+        int numbers = pads.count(0);
+        for (int k = 0; k < numbers; k++) {
             all.append(k == 0 ? "" : " ").append(pads.out(k));
         }
         return all.toString();
