@@ -24,6 +24,7 @@ public final class FaceTest {
                 "public int LandingPads.count(int) IllegalArgumentException",
                 "public int LandingPads.out(int) NoSuchElementException"));
         Check.same("the face", want.toString(), face().toString());
+        Check.same("the document's face", want.toString(), documentsFace().toString());
         Check.same("private methods with a public one's name", "[]", hiddenNamesakes().toString());
         Check.finish("FaceTest");
     }
@@ -42,6 +43,19 @@ public final class FaceTest {
             if (!Modifier.isPrivate(f.getModifiers())) {
                 face.add(f.toString());
             }
+        }
+        return face;
+    }
+
+    /** The document's lines, "public int type(int parent) throws A, B;", as describe writes methods. */
+    private static Set<String> documentsFace() {
+        Set<String> face = new TreeSet<>();
+        for (String line : Document.face()) {
+            face.add(line.replace(";", "").replace(" throws", "")
+                    .replaceAll("int \\w+([,)])", "int$1")
+                    .replaceAll(", int", ",int")
+                    .replaceAll("(Exception), ", "$1 ")
+                    .replaceAll("public (int|void) ", "public $1 LandingPads."));
         }
         return face;
     }

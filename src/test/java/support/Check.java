@@ -1,3 +1,4 @@
+import java.util.List;
 import java.util.NoSuchElementException;
 
 /** Compares answers with what is due and ends the test with exit code 1 on a difference. */
@@ -5,6 +6,11 @@ final class Check {
     static final String ARGUMENT = "throws.IllegalArgumentException";
     static final String STATE = "throws.IllegalStateException";
     static final String NO_ELEMENT = "throws.NoSuchElementException";
+
+    private static final String[] STATEMENTS = {
+        "PRINT", "CALL", "THROW", "TRY", "CATCH", "END", "LOCAL", "RETHROW"
+    };
+    private static final List<String> WITHOUT_X = List.of("TRY", "END", "RETHROW");
 
     private static int checked = 0;
     private static int wrong = 0;
@@ -98,10 +104,15 @@ final class Check {
         return 0;
     }
 
+    /** A statement as it is written here: "CATCH -1", "END". */
+    static String statementName(int statement, int x) {
+        String name = STATEMENTS[statement];
+        return WITHOUT_X.contains(name) ? name : name + " " + x;
+    }
+
     private static int statementNumber(String name) {
-        String[] names = {"PRINT", "CALL", "THROW", "TRY", "CATCH", "END", "LOCAL", "RETHROW"};
-        for (int i = 0; i < names.length; i++) {
-            if (names[i].equals(name)) {
+        for (int i = 0; i < STATEMENTS.length; i++) {
+            if (STATEMENTS[i].equals(name)) {
                 return i;
             }
         }
